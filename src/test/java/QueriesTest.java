@@ -244,6 +244,9 @@ public final class QueriesTest {
             Due.is("31 ingotMass", y.ingotMass(0, "ctlo".charAt(i)), masses[i]);
             Due.is("32 share", y.share(0, "ctlo".charAt(i)), shares[i]);
         }
+        Foundry z = Plants.withIngot(1, 0, 0, 0);
+        Due.is("32 the whole of one kilogram", z.share(0, 'c'), 1000);
+        Due.is("33 grade of one kilogram", z.grade(0), 'c');
     }
 
     private static void grade(int copper, int tin, int lead, int ore, char want) {
@@ -262,6 +265,8 @@ public final class QueriesTest {
         grade(32, 4, 4, 0, 'b');
         grade(32, 4, 2, 2, 'b');
         grade(32, 5, 0, 3, 'x');
+        // Of 39 kilograms, 2 of ore are 51 thousandths.
+        grade(33, 4, 0, 2, 'x');
         grade(31, 9, 0, 0, 'x');
         grade(33, 3, 4, 0, 'x');
         grade(0, 28, 12, 0, 's');

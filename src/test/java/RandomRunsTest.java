@@ -4,8 +4,8 @@ import java.util.Random;
 
 /** Runs of up to 512 calls, each answer against that of the model; the seeds are fixed, so every run is the same. */
 public final class RandomRunsTest {
-    private static final String[] KINDS = {"charge", "charge", "fire", "skim", "tap", "tap", "back", "mould", "pour", "pour",
-        "break", "melt", "wait", "wait"};
+    private static final String[] KINDS = {"charge", "charge", "fire", "skim", "tap", "tap", "back", "mould", "pour",
+        "pour", "break", "melt", "wait", "wait"};
 
     private static final class Answer {
         private String text;
