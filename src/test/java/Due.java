@@ -4,9 +4,23 @@ final class Due {
         void run();
     }
 
+    interface Asked {
+        Object ask();
+    }
+
+    private static final class Answer {
+        private String text;
+    }
+
     private static int wrong = 0;
+    private static String subject = "";
 
     private Due() {
+    }
+
+    /** Every fault from here on is told with this in front of it. */
+    static void about(String what) {
+        subject = what;
     }
 
     static void is(String call, long got, long want) {
@@ -50,10 +64,17 @@ final class Due {
         }
     }
 
+    /** What is answered, or the simple name of what is thrown. */
+    static String answer(Asked asked) {
+        Answer answer = new Answer();
+        RuntimeException thrown = thrownBy(() -> answer.text = "" + asked.ask());
+        return thrown == null ? answer.text : thrown.getClass().getSimpleName();
+    }
+
     static void fault(String text) {
         wrong++;
         if (wrong <= 50) {
-            System.out.println(text);
+            System.out.println(subject + text);
         }
     }
 

@@ -7,10 +7,6 @@ public final class RandomRunsTest {
     private static final String[] KINDS = {"charge", "charge", "fire", "skim", "tap", "tap", "back", "mould", "pour",
         "pour", "break", "melt", "wait", "wait"};
 
-    private static final class Answer {
-        private String text;
-    }
-
     public static void main(String[] args) {
         for (int seed = 0; seed < 400; seed++) {
             run(seed);
@@ -30,25 +26,15 @@ public final class RandomRunsTest {
             } else if (chance < 90) {
                 script(what, random, x, model);
             } else if (chance < 97) {
-                Due.is(what + ", undo", answer(() -> x.undo()), model.undo());
+                Due.is(what + ", undo", Due.answer(() -> x.undo()), model.undo());
             } else if (chance < 99) {
-                Due.is(what + ", save", answer(() -> x.save()), model.save());
+                Due.is(what + ", save", Due.answer(() -> x.save()), model.save());
             } else {
-                Due.is(what + ", restore", answer(() -> x.restore()), model.restore());
+                Due.is(what + ", restore", Due.answer(() -> x.restore()), model.restore());
             }
             Due.is(what + ", the state", Plants.digest(x), model.digest());
             queries(what, x, model);
         }
-    }
-
-    private interface Asked {
-        int ask();
-    }
-
-    private static String answer(Asked asked) {
-        Answer answer = new Answer();
-        RuntimeException thrown = Due.thrownBy(() -> answer.text = "" + asked.ask());
-        return thrown == null ? answer.text : thrown.getClass().getSimpleName();
     }
 
     private static int[] arguments(Random random, String kind, int most) {
@@ -88,7 +74,7 @@ public final class RandomRunsTest {
         }
         a[1] = kind.equals("charge") ? (char) a[1] : a[1];
         String call = what + ", " + kind + " " + a[0] + " " + a[1] + " " + a[2];
-        Due.is(call, answer(() -> called(x, kind, a[0], a[1], a[2])), model.change(kind, a[0], a[1], a[2]));
+        Due.is(call, Due.answer(() -> called(x, kind, a[0], a[1], a[2])), model.change(kind, a[0], a[1], a[2]));
     }
 
     private static int called(Foundry x, String kind, int a, int b, int c) {
@@ -149,7 +135,7 @@ public final class RandomRunsTest {
             arguments.add(a);
         }
         Plants.type(x, text.toString());
-        String got = answer(() -> x.runScript());
+        String got = Due.answer(() -> x.runScript());
         if (got.equals("IllegalStateException")) {
             got += " " + x.failedCommand();
         }
@@ -162,16 +148,16 @@ public final class RandomRunsTest {
             int furnace = i;
             int minutes = model.minutesUntilMolten(i);
             String want = minutes < 0 ? "NoSuchElementException" : "" + minutes;
-            Due.is(what + ", minutesUntilMolten", answer(() -> x.minutesUntilMolten(furnace)), want);
-            Due.is(what + ", by division", answer(() -> x.minutesUntilMoltenByDivision(furnace)), want);
+            Due.is(what + ", minutesUntilMolten", Due.answer(() -> x.minutesUntilMolten(furnace)), want);
+            Due.is(what + ", by division", Due.answer(() -> x.minutesUntilMoltenByDivision(furnace)), want);
             String point = model.mass("F" + i) == 0 ? "NoSuchElementException" : "" + model.point("F" + i);
-            Due.is(what + ", meltingPoint", answer(() -> x.meltingPoint(furnace)), point);
-            Due.is(what + ", by differences", answer(() -> x.meltingPointByDifferences(furnace)), point);
+            Due.is(what + ", meltingPoint", Due.answer(() -> x.meltingPoint(furnace)), point);
+            Due.is(what + ", by differences", Due.answer(() -> x.meltingPointByDifferences(furnace)), point);
             Due.is(what + ", isMolten", x.isMolten(i), model.molten("F" + i));
             Due.is(what + ", furnaceByTemperature", x.furnaceByTemperature(i), model.furnaceOrder().get(i));
             String pouring = !model.molten("L" + i) ? "NoSuchElementException"
                 : "" + (model.get("L" + i + "@") - model.point("L" + i)) / 10;
-            Due.is(what + ", pouringMinutes", answer(() -> x.pouringMinutes(furnace)), pouring);
+            Due.is(what + ", pouringMinutes", Due.answer(() -> x.pouringMinutes(furnace)), pouring);
         }
         List<Integer> order = model.ingotOrder();
         for (int i = 0; i < order.size(); i++) {
