@@ -242,6 +242,11 @@ final class ChangesBoundaries {
             Due.is("a ladle of 20 degrees", x.pourBack(0, 1), 20);
             Due.is("everything is in the furnace", Plants.inFurnace(x, 1), "0 40 0 0");
             Due.is("nothing is in the ladle", Plants.inLadle(x, 0), "0 0 0 0");
+            Foundry y = Plants.hot(1, 2, 3, 4);
+            y.tap(0, 0, 10);
+            y.pourBack(0, 1);
+            Due.is("four materials are in the furnace", Plants.inFurnace(y, 1), "1 2 3 4");
+            Due.is("none is in the ladle", Plants.inLadle(y, 0), "0 0 0 0");
         });
         Sentences.promise(6, "Returns the temperature of the furnace after the call.", () -> {
             Due.is("an empty furnace", Plants.ladled(10).pourBack(0, 2), 760);
@@ -431,6 +436,9 @@ final class ChangesBoundaries {
             Due.is("ingotCount", x.ingotCount(), 0);
             Due.is("the furnace", Plants.inFurnace(x, 0), "0 61 0 0");
             Due.is("what has been charged", x.charged('t'), 100);
+            Foundry y = Plants.withIngot(4, 3, 2, 1);
+            y.meltDown(0, 1);
+            Due.is("an ingot of four materials", Plants.inFurnace(y, 1), "4 3 2 1");
         });
         Sentences.promise(10, "Returns the temperature of the furnace after the call.", () -> {
             Due.is("an empty cold furnace", Plants.store(1).meltDown(0, 2), 20);

@@ -305,6 +305,17 @@ final class QueriesBoundaries {
             order.append(x.ingotByMass(rank)).append(' ');
         }
         Due.is("by mass and index", order.toString(), "2 3 4 5 6 7 8 9 10 11 1 0 ");
+        Foundry alike = Plants.ladled(12);
+        alike.addMould(1);
+        order.setLength(0);
+        for (int i = 0; i < 12; i++) {
+            alike.pour(0, 0);
+            alike.breakOut(0);
+        }
+        for (int rank = 0; rank < 12; rank++) {
+            order.append(alike.ingotByMass(rank)).append(' ');
+        }
+        Due.is("by index", order.toString(), "0 1 2 3 4 5 6 7 8 9 10 11 ");
         // Ingots of 3 with 1 of copper, of 3 with 2, of 4 without and of 3 with 2 again.
         Foundry y = new Foundry();
         String[] mixtures = {"1 2", "2 1", "0 4", "2 1"};

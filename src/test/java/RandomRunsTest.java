@@ -2,13 +2,17 @@ import java.util.ArrayList;
 import java.util.List;
 import java.util.Random;
 
-/** Runs of up to 512 calls, each answer against that of the model; the seeds are fixed, so every run is the same. */
+/** Runs of at most 512 calls, each answer against that of the model; the seeds are fixed, so every run is the same. */
 public final class RandomRunsTest {
+    private static final int RUNS = 4000;
+    /** The longest script and all questions at the end of a run take less; what is left of 512 calls is for changes. */
+    private static final int KEPT_CALLS = 260;
+
     private static final String[] KINDS = {"charge", "charge", "fire", "skim", "tap", "tap", "back", "mould", "pour",
         "pour", "break", "melt", "wait", "wait"};
 
     public static void main(String[] args) {
-        for (int seed = 0; seed < 400; seed++) {
+        for (int seed = 0; seed < RUNS; seed++) {
             run(seed);
         }
         Due.end();
@@ -18,13 +22,14 @@ public final class RandomRunsTest {
         Random random = new Random(seed);
         Foundry x = new Foundry();
         Model model = new Model();
-        for (int call = 0; call < 500; call++) {
+        int most = random.nextInt(512 - KEPT_CALLS);
+        for (int call = 0; call <= most; call++) {
             String what = "seed " + seed + ", call " + call;
             int chance = random.nextInt(100);
-            if (chance < 80) {
+            if (chance < 88) {
                 change(what, random, x, model);
             } else if (chance < 90) {
-                script(what, random, x, model);
+                call += script(what, random, x, model);
             } else if (chance < 97) {
                 Due.is(what + ", undo", Due.answer(() -> x.undo()), model.undo());
             } else if (chance < 99) {
@@ -32,9 +37,9 @@ public final class RandomRunsTest {
             } else {
                 Due.is(what + ", restore", Due.answer(() -> x.restore()), model.restore());
             }
-            Due.is(what + ", the state", Plants.digest(x), model.digest());
-            queries(what, x, model);
         }
+        Due.is("seed " + seed + ", the state", Plants.digest(x), model.digest());
+        queries("seed " + seed, x, model);
     }
 
     private static int[] arguments(Random random, String kind, int most) {
@@ -118,7 +123,8 @@ public final class RandomRunsTest {
         }
     }
 
-    private static void script(String what, Random random, Foundry x, Model model) {
+    /** Answers the number of calls, but for the last one. */
+    private static int script(String what, Random random, Foundry x, Model model) {
         List<String> kinds = new ArrayList<>();
         List<int[]> arguments = new ArrayList<>();
         StringBuilder text = new StringBuilder();
@@ -140,6 +146,7 @@ public final class RandomRunsTest {
             got += " " + x.failedCommand();
         }
         Due.is(what + ", script " + text, got, model.script(kinds, arguments));
+        return text.length() + 1;
     }
 
     private static void queries(String what, Foundry x, Model model) {

@@ -13,6 +13,12 @@ final class ScriptsBoundaries {
     private static final String[] COMMANDS = {"charge 0 c1", "fire 0 0", "skim 0", "tap 0 0 1", "back 0 0", "mould 1",
         "pour 0 0", "break 0", "melt 0 0", "wait 1"};
 
+    /** Changes of what filledEverywhere answers. */
+    private static final Refusals.Call[] CHANGES = {x -> x.charge(2, 'c', 1), x -> x.charge(1, 't', 1),
+        x -> x.charge(0, 'l', 1), x -> x.charge(0, 'o', 1), x -> x.setFire(0, 1), x -> x.setFire(1, 5), x -> x.setFire(2, 0),
+        x -> x.pourBack(0, 1), x -> x.pourBack(1, 2), x -> x.pourBack(2, 0), x -> x.meltDown(0, 0), x -> x.meltDown(10, 1),
+        x -> x.advance(7)};
+
     private ScriptsBoundaries() {
     }
 
@@ -172,6 +178,7 @@ final class ScriptsBoundaries {
             error(command + "; ", command.length() + 1);
             error(command + ";" + command + ";", 2 * command.length() + 2);
         }
+        afterALongerScript();
         // A word's letters that another word shares lead as far as the longest of them.
         error("bree", 3);
         error("bask", 2);
@@ -181,6 +188,24 @@ final class ScriptsBoundaries {
         error("chargec", 6);
         error(waits(8) + ";", 56);
         error(waits(8) + ";wait", 60);
+    }
+
+    /** What was typed for a script before must not be read behind the end of the next one. */
+    private static void afterALongerScript() {
+        for (String command : COMMANDS) {
+            for (int i = 0; i < command.length(); i++) {
+                Foundry x = typed(command + ";" + command);
+                Due.thrownBy(() -> x.runScript());
+                Plants.type(x, command.substring(0, i));
+                Due.refused("runScript of the first " + i + " of " + command, ARGUMENT, () -> x.runScript());
+                Due.is("errorPosition of the first " + i + " of " + command, x.errorPosition(), i);
+            }
+            Foundry x = typed(command + ";" + command);
+            Due.thrownBy(() -> x.runScript());
+            Plants.type(x, command);
+            Due.thrownBy(() -> x.runScript());
+            Due.refused("errorPosition after " + command, MISSING, () -> x.errorPosition());
+        }
     }
 
     // the grammar
@@ -524,7 +549,73 @@ final class ScriptsBoundaries {
         }
     }
 
+    /** Every furnace, ladle, mould and ingot holds something, of the greatest numbers of them. */
+    private static Foundry filledEverywhere() {
+        Foundry x = Plants.store(12);
+        Plants.charge(x, 0, 0, 0, 0, 8);
+        Plants.charge(x, 1, 5, 6, 7, 8);
+        Plants.charge(x, 2, 9, 10, 11, 12);
+        x.setFire(1, 2);
+        x.setFire(2, 3);
+        x.advance(10);
+        x.skim(0);
+        x.tap(0, 1, 20);
+        x.tap(0, 2, 21);
+        for (int i = 3; i < 6; i++) {
+            x.addMould(i + 1);
+        }
+        for (int i = 0; i < 6; i++) {
+            x.pour(i < 3 ? 0 : i < 5 ? 1 : 2, i);
+        }
+        return x;
+    }
+
+    private static void everyPlaceIsCovered() {
+        String before = Plants.digest(filledEverywhere());
+        Foundry all = filledEverywhere();
+        all.save();
+        for (int i = 0; i < CHANGES.length; i++) {
+            Foundry x = filledEverywhere();
+            CHANGES[i].on(x);
+            Due.is("change " + i + " can be seen", Plants.digest(x).equals(before), false);
+            x.undo();
+            Due.is("the object after undo of change " + i, Plants.digest(x), before);
+            CHANGES[i].on(all);
+        }
+        for (int i = 0; i < 6; i++) {
+            if (all.ingotCount() == 12) {
+                all.meltDown(11, 2);
+            }
+            all.breakOut(i);
+        }
+        all.restore();
+        Due.is("the object after restore", Plants.digest(all), before);
+        Foundry emptied = filledEverywhere();
+        emptied.save();
+        for (int i = 0; i < 12; i++) {
+            emptied.meltDown(0, 0);
+        }
+        emptied.restore();
+        Due.is("the object after all ingots were melted down", Plants.digest(emptied), before);
+        volumesAreCovered();
+    }
+
+    /** The moulds of the snapshot are undone, and others take their places. */
+    private static void volumesAreCovered() {
+        Foundry x = Plants.moulds(6);
+        x.save();
+        for (int i = 0; i < 6; i++) {
+            x.undo();
+        }
+        for (int i = 0; i < 6; i++) {
+            x.addMould(40 - i);
+        }
+        x.restore();
+        Due.is("the moulds of the snapshot", Plants.digest(x), Plants.digest(Plants.moulds(6)));
+    }
+
     static void whatUndoCovers() {
+        everyPlaceIsCovered();
         Foundry x = Plants.busy();
         String before = Plants.digest(x);
         x.charge(2, 'c', 1);
@@ -626,8 +717,8 @@ final class ScriptsBoundaries {
             Due.is("after save", x.restore(), 0);
         });
         Sentences.promise(52, "Restores the snapshot, which is kept. Afterwards there is nothing to undo.", () -> {
+            String saved = Plants.digest(Plants.store(12));
             Foundry x = Plants.store(12);
-            String saved = Plants.digest(x);
             x.save();
             for (int i = 0; i < 2; i++) {
                 Plants.run(x, "melt 0 1;melt 10 1;mould 9;fire 2 5;wait 9;back 0 1");

@@ -138,24 +138,24 @@ public final class ScriptsTest {
     }
 
     private static void failedCommands() {
-        Foundry x = new Foundry();
-        Due.refused("49 no script at all", MISSING, () -> x.failedCommand());
+        Due.refused("49 no script at all", MISSING, () -> new Foundry().failedCommand());
         String[] failing = {"charge 3 c1", "charge 0 c0", "charge 0 c51", "fire 9 0", "fire 0 6", "skim 0", "tap 0 0 0",
             "tap 0 0 41", "tap 0 0 1", "back 0 0", "mould 0", "mould 41", "pour 0 0", "break 0", "melt 0 0", "melt 999 0",
             "wait 0", "wait 201", "wait 999"};
         for (String script : failing) {
+            Foundry x = new Foundry();
             Plants.type(x, script);
             Due.refused("47 " + script, STATE, () -> x.runScript());
             Due.is("49 " + script, x.failedCommand(), 0);
             Plants.type(x, "wait 1;mould 1;" + script);
             Due.refused("47 behind two: " + script, STATE, () -> x.runScript());
             Due.is("49 behind two: " + script, x.failedCommand(), 2);
+            Due.is("47 the time", x.time(), 0);
+            Due.is("47 the moulds", x.mouldCount(), 0);
+            Plants.run(x, "wait 1");
+            Due.is("49 a good script leaves it", x.failedCommand(), 2);
+            Due.refused("48 none was of another form", MISSING, () -> x.errorPosition());
         }
-        Due.is("47 the time", x.time(), 0);
-        Due.is("47 the moulds", x.mouldCount(), 0);
-        Plants.run(x, "wait 1");
-        Due.is("49 a good script leaves it", x.failedCommand(), 2);
-        Due.refused("48 none was of another form", MISSING, () -> x.errorPosition());
     }
 
     private static void error(Foundry x, String script, int want) {

@@ -184,10 +184,23 @@ final class TermsBoundaries {
         x.renderFurnace(i);
     }
 
+    private static void changeFurnace(int i) {
+        Foundry x = Plants.molten(i, 0, 90, 0, 4);
+        Due.is("skim", x.skim(i), 5);
+        Due.is("tap", x.tap(i, 0, 2), x.furnaceTemperature(i));
+        x.addMould(1);
+        x.pour(0, 0);
+        x.breakOut(0);
+        x.pourBack(0, i);
+        x.meltDown(0, i);
+        Due.is("the furnace at last", Plants.inFurnace(x, i), "0 89 0 0");
+    }
+
     private static void threeFurnaces() {
         Foundry x = new Foundry();
         for (int i = 0; i < 3; i++) {
             askFurnace(x, i);
+            changeFurnace(i);
         }
         for (int i : Refusals.outside(3)) {
             Due.refused("fire(" + i + ")", Refusals.INDEX, () -> x.fire(i));
@@ -270,11 +283,18 @@ final class TermsBoundaries {
     }
 
     private static void threeLadles() {
-        Foundry x = Plants.hot(0, 3, 0, 0);
+        Foundry x = Plants.hot(0, 4, 0, 0);
         for (int i = 0; i < 3; i++) {
             Due.is("tap", x.tap(0, i, 1), 1500);
             Due.is("ladleTotal", x.ladleTotal(i), 1);
             Due.is("ladleTemperature", x.ladleTemperature(i), 1500);
+            Due.is("pouringMinutes", x.pouringMinutes(i), 126);
+            Due.is("addMould", x.addMould(1), i);
+            Due.is("pour", x.pour(i, i), 0);
+            x.breakOut(i);
+            x.meltDown(0, 1);
+            Due.is("tap from furnace 0", x.tap(0, i, 1), 1500);
+            Due.is("pourBack", x.pourBack(i, 0), 1500);
         }
         for (int i : Refusals.outside(3)) {
             Due.refused("ladleTotal(" + i + ")", Refusals.INDEX, () -> x.ladleTotal(i));
@@ -355,6 +375,11 @@ final class TermsBoundaries {
         taken(10, 10, 20, 30, 40, "1 2 3 4");
         taken(40, 10, 20, 30, 40, "4 8 12 16");
         taken(4, 25, 25, 25, 25, "1 1 1 1");
+        // Half of each, though one alone has as much.
+        taken(20, 30, 0, 0, 10, "15 0 0 5");
+        taken(20, 10, 30, 0, 0, "5 15 0 0");
+        taken(20, 0, 10, 30, 0, "0 5 15 0");
+        taken(20, 0, 0, 10, 30, "0 0 5 15");
         Foundry x = Plants.hot(10, 10, 10, 1);
         x.tap(0, 0, 31);
         x.addMould(31);

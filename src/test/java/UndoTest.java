@@ -1,11 +1,14 @@
-import java.util.ArrayList;
-import java.util.List;
 import java.util.NoSuchElementException;
 
 /** Promises 50 to 52: undo, save and restore. */
 public final class UndoTest {
     private static final Class<NoSuchElementException> MISSING = NoSuchElementException.class;
     private static final Class<IllegalStateException> STATE = IllegalStateException.class;
+
+    private static final Refusals.Call[] CHANGES = {x -> x.charge(0, 't', 40), x -> x.charge(0, 'o', 9),
+        x -> x.setFire(0, 5), x -> x.advance(30), x -> x.skim(0), x -> x.tap(0, 1, 20), x -> x.addMould(6),
+        x -> x.pour(1, 0), x -> x.breakOut(0), x -> x.pourBack(1, 2), x -> x.meltDown(0, 1),
+        x -> Plants.run(x, "charge 1 c5;fire 1 5;mould 3;wait 100")};
 
     public static void main(String[] args) {
         everyChangeIsUndone();
@@ -17,45 +20,42 @@ public final class UndoTest {
         Due.end();
     }
 
-    private static void undone(Foundry x, String what, Due.Call change) {
-        String before = Plants.digest(x);
-        change.run();
-        x.undo();
-        Due.is("50 " + what, Plants.digest(x), before);
-        change.run();
+    private static Foundry changed(int changes) {
+        Foundry x = new Foundry();
+        for (int i = 0; i < changes; i++) {
+            CHANGES[i].on(x);
+        }
+        return x;
     }
 
     private static void everyChangeIsUndone() {
+        for (int i = 0; i < CHANGES.length; i++) {
+            Foundry x = changed(i + 1);
+            x.undo();
+            Due.is("50 undo of change " + i, Plants.digest(x), Plants.digest(changed(i)));
+            CHANGES[i].on(x);
+            Due.is("50 change " + i + " again", Plants.digest(x), Plants.digest(changed(i + 1)));
+            Due.is("50 isConsistent", x.isConsistent(), true);
+        }
+    }
+
+    private static Foundry charged(int charges) {
         Foundry x = new Foundry();
-        undone(x, "charge", () -> x.charge(0, 't', 40));
-        undone(x, "charge of ore", () -> x.charge(0, 'o', 9));
-        undone(x, "setFire", () -> x.setFire(0, 5));
-        undone(x, "advance", () -> x.advance(30));
-        undone(x, "skim", () -> x.skim(0));
-        undone(x, "tap", () -> x.tap(0, 1, 20));
-        undone(x, "addMould", () -> x.addMould(6));
-        undone(x, "pour", () -> x.pour(1, 0));
-        undone(x, "breakOut", () -> x.breakOut(0));
-        undone(x, "pourBack", () -> x.pourBack(1, 2));
-        undone(x, "meltDown", () -> x.meltDown(0, 1));
-        undone(x, "runScript", () -> Plants.run(x, "charge 1 c5;fire 1 5;mould 3;wait 100"));
-        Due.is("50 isConsistent", x.isConsistent(), true);
+        for (int i = 0; i < charges; i++) {
+            x.charge(i % 3, "ctlo".charAt(i % 4), i + 1);
+        }
+        return x;
     }
 
     private static void eightAreKept() {
-        Foundry x = new Foundry();
-        Due.refused("50 nothing to undo", MISSING, () -> x.undo());
-        List<String> before = new ArrayList<>();
-        for (int i = 0; i < 20; i++) {
-            before.add(Plants.digest(x));
-            x.charge(i % 3, "ctlo".charAt(i % 4), i + 1);
-        }
+        Due.refused("50 nothing to undo", MISSING, () -> new Foundry().undo());
+        Foundry x = charged(20);
         for (int i = 0; i < 8; i++) {
             Due.is("50 undo", x.undo(), 7 - i);
-            Due.is("50 the state before", Plants.digest(x), before.get(19 - i));
+            Due.is("50 the state before", Plants.digest(x), Plants.digest(charged(19 - i)));
         }
         Due.refused("50 no ninth", MISSING, () -> x.undo());
-        Due.is("50 the state stays", Plants.digest(x), before.get(12));
+        Due.is("50 the state stays", Plants.digest(x), Plants.digest(charged(12)));
     }
 
     private static void whatIsNoChange() {
